@@ -646,7 +646,6 @@ public final class LineCoder {
             goodRow++;
             if (goodRow >= GOOD_TO_FOLLOW) {
                 following = true;
-                goodRow = 0;
                 lately = 0;
             }
         }
@@ -656,7 +655,6 @@ public final class LineCoder {
             if (Integer.bitCount(lately) >= BAD_TO_HUNT) {
                 following = false;
                 goodRow = 0;
-                lately = 0;
             }
         }
     }

@@ -17,7 +17,6 @@ public final class StartTest {
         isAsAtFirst("cleared when new", twice);
 
         forgetsTheFirstTen();
-        forgetsTheRowOfFour();
         forgetsGoodWords();
         objectsAreApart();
         CHECK.end();
@@ -81,24 +80,6 @@ public final class StartTest {
         CHECK.same("cleared behind a mark: FOLLOWS", x.count(0, 2), 0);
         x.raw(0, 0b0101010101, 10);
         CHECK.same("cleared behind a mark: receive", x.receive(), LineCoder.SLIP);
-    }
-
-    private static void forgetsTheRowOfFour() {
-        LineCoder x = new LineCoder();
-        x.send(444);
-        x.send(74);
-        x.send(74);
-        for (int i = 0; i < 3; i++) {
-            x.receive();
-        }
-        x.clear();
-        x.send(444);
-        x.raw(0, 0, 10);
-        x.send(74);
-        for (int i = 0; i < 3; i++) {
-            x.receive();
-        }
-        CHECK.same("cleared in a row: MARKS", x.count(0, 3), 1);
     }
 
     private static void forgetsGoodWords() {

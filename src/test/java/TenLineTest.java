@@ -21,6 +21,7 @@ public final class TenLineTest {
         takesTheFirstSign();
         aBadFirstTenIsTheFirst();
         badOnesMoveTheSign();
+        wrongOnesMoveTheSign();
         losesItsPlaceWithFourMarks();
         everyFourthTakesAMark();
         aRowIsBrokenByAWrongOne();
@@ -187,6 +188,24 @@ public final class TenLineTest {
         badMoves(x, 0b1111110011, true, "six ones and 0011");
         badMoves(x, 0b0000001100, false, "no ones and 1100");
         badMoves(x, 0b1110000011, true, "111000 and 0011");
+    }
+
+    private static void wrongOnesMoveTheSign() {
+        LineCoder x = new LineCoder();
+        x.raw(0, SIGN_PLUS, 10);
+        x.receive();
+        x.raw(0, 0b0001111001, 10);
+        CHECK.same("000111 with MINUS", x.receive(), 39 + 512);
+        CHECK.same("sign behind 000111", x.isPlus(false), true);
+        x.raw(0, 0b1110001001, 10);
+        CHECK.same("111000 with PLUS", x.receive(), 39 + 512);
+        CHECK.same("sign behind 111000", x.isPlus(false), false);
+        x.raw(0, 0b1100010011, 10);
+        CHECK.same("0011 with MINUS", x.receive(), 99 + 512);
+        CHECK.same("sign behind 0011", x.isPlus(false), true);
+        x.raw(0, 0b1100011100, 10);
+        CHECK.same("1100 with PLUS", x.receive(), 99 + 512);
+        CHECK.same("sign behind 1100", x.isPlus(false), false);
     }
 
     private static void badMoves(LineCoder x, int ten, boolean due, String what) {
