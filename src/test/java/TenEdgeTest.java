@@ -325,6 +325,16 @@ public final class TenEdgeTest {
         receives(x, SIGN_MINUS, SIGN, 0);
         CHECK.counts("its sign is taken again", x, 0, 60, 60, 1, 0, 0, 4, 0);
         receives(x, SIGN_MINUS, SIGN + 512, 1);
+        // One that is a SYMBOL's with either sign, its mark being lost, has no other sign to take.
+        LineCoder y = following(SIGN_MINUS);
+        for (int i = 0; i < 4; i++) {
+            receives(y, 0b1111111111, BAD, i == 3 ? 0 : i + 1);
+        }
+        y.raw(0, TURNED_MARK, 7);
+        CHECK.same("a mark in HUNT again", y.receive(), NONE);
+        CHECK.same("the mark is lost", y.lose(0, 50, 7), 7);
+        receives(y, EVEN_TEN, EVEN, 0);
+        CHECK.same("PLUS, still", y.isPlus(false), true);
     }
 
     private static void theFirstOneIsBad() {
