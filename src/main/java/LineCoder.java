@@ -343,18 +343,15 @@ public final class LineCoder {
         private static int fourOf(int symbol, boolean plus) {
             int y = symbol >> 5 & 7;
             boolean sign = symbol >= BYTES;
+            int others = plus ? OTHER_FOUR_WITH_PLUS : OTHER_FOUR_WITH_MINUS;
             int four = FOUR[y];
-            if (y == 7 && (sign || hasOtherFour(symbol & 31, plus))) {
+            if (y == 7 && (sign || isAmong(symbol & 31, others))) {
                 four = OTHER_FOUR_OF_7;
             }
             boolean hasPlusForm = Integer.bitCount(four) != 2 || four == 0b1100;
             // The fours without a form for PLUS are those of y = 1, 2, 5, 6, which signs turn round.
             boolean turned = hasPlusForm ? plus : sign && !plus;
             return turned ? four ^ 0b1111 : four;
-        }
-
-        private static boolean hasOtherFour(int x, boolean plus) {
-            return isAmong(x, plus ? OTHER_FOUR_WITH_PLUS : OTHER_FOUR_WITH_MINUS);
         }
 
         private static boolean plusBehindSix(int six, boolean plus) {
@@ -453,7 +450,7 @@ public final class LineCoder {
             return wrongs;
         }
 
-        final void huntAnew() {
+        final void countAnew() {
             following = false;
             slips = 0;
             bads = 0;
@@ -490,7 +487,7 @@ public final class LineCoder {
         }
 
         void restart() {
-            huntAnew();
+            countAnew();
             plus = false;
             first = false;
             marks = 0;
@@ -593,7 +590,7 @@ public final class LineCoder {
         }
 
         void restart() {
-            huntAnew();
+            countAnew();
             received.forget();
             goodRow = 0;
             lately = 0;
